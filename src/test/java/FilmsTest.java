@@ -130,12 +130,25 @@ public final class FilmsTest {
         due("25: still one", x.span(9, 100000, 99), 1);
         due("25: as much, too", x.span(9, 100000, 100), 19);
         due("25: any", x.span(9, 100000, Integer.MAX_VALUE), 19);
+        edges(Check.ofThree("999,999,100,100"));
         x.frame(2, -300);
         // k above 0: 0, 0: 100 + 300. k 0: 0 + 400. k below 0: 200, 200: 100 + 500
         due("24: of 0 and above", x.shape(9, 100000, 0), 0);
         due("24: OFF", x.shape(9, 100000, 1), 400);
         due("25: 0 to 9", x.span(9, 100000, 400), 10);
         due("25: none", x.span(9, 100000, 399), 0);
+    }
+
+    private static void edges(TurnsOneWay x) {
+        x.frame(0, 999);
+        x.frame(1, -44);
+        due("24: k 9", x.shape(9, 55000, 0), 9);
+        due("24: its OFF", x.shape(9, 55000, 1), 0);
+        x.cut();
+        x.frame(0, 999);
+        x.frame(1, 66);
+        due("24: k -8", x.shape(9, 55, 0), -8);
+        due("24: its OFF", x.shape(9, 55, 1), 0);
     }
 
     private static void which() {

@@ -63,6 +63,9 @@ public final class FloorsTest {
         fault("v?", 2);
         fault("?v", 0);
         fault("v?q?s", 3);
+        fault("v?((((((q))))))", -1);
+        fault("v?(((((((q", 8);
+        fault("((((((v))))))?!!!!!!!q", 20);
         fault("v;q", -1);
         fault("v;", 2);
         fault(";v", 0);
@@ -153,6 +156,8 @@ public final class FloorsTest {
     }
 
     private static void wraps() {
+        // the most parts: 60 names, each with a sign ahead. v 30 times, less v 29 times and i
+        takes("-i" + "+v-v".repeat(29) + "+v", 19, 499, 6);
         // 9999 to the third is 233 times 2 to the 32nd, less 1027349969
         takes("9999*9999*9999", 0, 0, 0);
         takes("9999*9999*9999/-1000/1000-1026", 1, 1, 1);

@@ -144,6 +144,12 @@ public final class GoingsTest {
         due("9: nothing at first", x.roll(29, 0, 0, 3), 0);
         due("12: ENDED at once", x.told(0), 0);
         Check.floor(x, "i=3");
+        due("9: i 3 is not yet", x.roll(3, 1, 0, 2), 1);
+        due("12: not ENDED", x.told(0), -2);
+        due("9: to the third TICK", x.roll(3, 1, 0, 3), 0);
+        due("12: ENDED at its last TICK", x.told(0), 3);
+        due("9: the whole way", x.roll(9, 1, 0, 400), 1);
+        due("10: the last TICK", x.going(400, 0), 1);
         due("9: in the third TICK", x.roll(3, 2, 0, 5), 1);
         at(x, 2, 2, 0, 0);
         at(x, 3, 1, 0, 0);

@@ -185,6 +185,13 @@ public final class StonesTest {
         due("28: and back", x.undo(), 4);
         due("6: another came behind", x.set(0, 6, 5), 999);
         due("29: so it may not", x.redo(), -5);
+        due("6: the first weight", x.set(0, 10, 9), 2);
+        due("6: and again", x.set(0, 10, 1), 9);
+        due("6: 1", x.lump(0, 0, 0), 1);
+        x.undo();
+        due("28: 9", x.lump(0, 0, 0), 9);
+        x.undo();
+        due("28: 2", x.lump(0, 0, 0), 2);
         due("6: what it is, becomes it", x.set(0, 6, 5), 5);
         due("39: a change too", x.count(4), 6);
     }
@@ -194,10 +201,16 @@ public final class StonesTest {
         Check.stone(x, "2+9+1/500,0,0,0");
         for (int i = 0; i < 43; i++) x.set(0, 6, i);
         due("28: 40 are kept", x.count(4), 40);
-        for (int i = 39; i >= 0; i--) due("28: undo", x.undo(), i);
+        for (int i = 39; i >= 0; i--) {
+            due("28: undo", x.undo(), i);
+            due("28: what it was", x.of(0, 6), i + 2);
+        }
         due("28: no more", x.undo(), -5);
         due("28: as it was behind the third", x.of(0, 6), 2);
-        for (int i = 39; i >= 0; i--) due("29: redo", x.redo(), i);
+        for (int i = 39; i >= 0; i--) {
+            due("29: redo", x.redo(), i);
+            due("29: what it became", x.of(0, 6), 42 - i);
+        }
         due("29: no more", x.redo(), -5);
         due("29: the latest", x.of(0, 6), 42);
     }

@@ -46,6 +46,14 @@ public final class ThoughtTest {
         x.set(2, 8, 100);
         due("14: the sooner", x.soonest(9, 50, 100000, 0), 2);
         due("14: its TICK", x.soonest(9, 50, 100000, 1), 1);
+        Check.stone(x, "1+9+1;1-9-1/0,0,1,0");
+        x.set(1, 8, 0);
+        x.set(2, 8, 0);
+        due("14: the last", x.soonest(9, 1, 200000, 0), 3);
+        TurnsOneWay first = new TurnsOneWay();
+        Check.stone(first, "1+9+1;1-9-1/0,0,1,0");
+        due("14: the first", first.soonest(9, 1, 200000, 0), 0);
+        due("14: its TICK", first.soonest(9, 1, 200000, 1), 1);
         due("14: none does", x.soonest(9, -50, 100000, 0), -2);
         due("14: none, of TICK", x.soonest(9, -50, 100000, 1), -2);
         due("14: no floor 0", x.soonest(0, 50, 100000, 0), -1);
@@ -90,6 +98,8 @@ public final class ThoughtTest {
         due("17: the least k", x.seen(9, 999, 100000), 5);
         due("17: whatever the stone's own", x.seen(29, 999, 100000), 5);
         due("17: to the right", x.seen(9, -999, 100000), -2);
+        // by 9: 999 less 494, less 494 and 55; by 8: 999 less 439, less 439 and 55
+        due("17: k 9", x.seen(9, 999, 55000), 9);
         Check.floor(x, "v");
         due("17: on a floor", x.seen(0, 999, 100000), -2);
         due("17: k 1", x.seen(9, 1, 100000), 1);
