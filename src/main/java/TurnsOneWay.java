@@ -86,7 +86,10 @@ public final class TurnsOneWay {
             return BAD;
         }
         int was = told.change(what, v);
-        changes.note(stone, what, was, v);
+        // a number that stays as it was is no CHANGE: what may be DONE AGAIN stays, too
+        if (was != v) {
+            changes.note(stone, what, was, v);
+        }
         return was;
     }
 

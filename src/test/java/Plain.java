@@ -348,6 +348,7 @@ final class Plain {
         int least = what < 10 ? 0 : 1, most = what < 8 ? 999 : what < 10 ? 100 : 9;
         if (v < least || v > most) return BAD;
         int was = become(stone, what, v);
+        if (was == v) return was;
         redoable.clear();
         undoable.add(new int[] {stone, what, was, v});
         if (undoable.size() > 40) undoable.remove(0);

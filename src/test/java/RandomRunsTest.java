@@ -199,6 +199,7 @@ public final class RandomRunsTest {
 
     private void change(int a) {
         int b = within(6, 13), c = b < 8 ? within(0, 999) : b < 10 ? within(0, 100) : within(1, 9);
+        if (random.nextInt(4) == 0) c = b < 10 ? plain.of(a, b) : plain.lump(a, b - 10, 0);
         due("set " + a + " " + b + " " + c, real.set(a, b, c), plain.set(a, b, c));
     }
 

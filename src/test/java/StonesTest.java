@@ -19,6 +19,7 @@ public final class StonesTest {
         numbers();
         turns();
         changes();
+        noChanges();
         manyChanges();
         CHECK.close();
     }
@@ -193,7 +194,31 @@ public final class StonesTest {
         x.undo();
         due("28: 2", x.lump(0, 0, 0), 2);
         due("6: what it is, becomes it", x.set(0, 6, 5), 5);
-        due("39: a change too", x.count(4), 6);
+        due("39: it is no change", x.count(4), 5);
+        due("29: none came behind", x.redo(), 1);
+        due("29: the first weight", x.lump(0, 0, 0), 9);
+    }
+
+    private static void noChanges() {
+        TurnsOneWay x = new TurnsOneWay();
+        Check.stone(x, "2+9+1;7-9-1/12,345,67,8");
+        int[] stands = {12, 345, 67, 8, 2, 7};
+        for (int i = 0; i < stands.length; i++) due("6: as it was", x.set(0, 6 + i, stands[i]), stands[i]);
+        due("39: no change came", x.count(4), 0);
+        due("28: none", x.undo(), -5);
+        due("6: A", x.set(0, 6, 0), 12);
+        due("6: A as it was", x.set(0, 6, 0), 0);
+        due("39: one change", x.count(4), 1);
+        due("28: it", x.undo(), 0);
+        due("28: A again", x.of(0, 6), 12);
+        for (int i = 0; i < stands.length; i++) due("6: as it was, ahead of redo", x.set(0, 6 + i, stands[i]), stands[i]);
+        due("29: no other came behind", x.redo(), 0);
+        due("29: of A", x.of(0, 6), 0);
+        for (int i = 0; i < 39; i++) x.set(0, 7, i);
+        due("39: 40 changes", x.count(4), 40);
+        due("6: none pushes the oldest out", x.set(0, 7, 38), 38);
+        for (int i = 39; i >= 0; i--) due("28: undo", x.undo(), i);
+        due("28: the oldest, too", x.of(0, 6), 12);
     }
 
     private static void manyChanges() {
