@@ -112,6 +112,12 @@ public final class EdgesOfActsTest {
             due("no TRACE", x.trace(0), -1);
             due("none ran", x.count(6), 0);
         }
+        for (int kind = 0; kind < 8; kind++) {
+            for (int act : new int[] {-1, 4}) {
+                due("act " + act + " of KIND " + kind, x.act(kind, act, 5), 0);
+                due("none ran", x.count(6), 0);
+            }
+        }
         TurnsOneWay none = new TurnsOneWay();
         for (int act = 0; act < 4; act++) due("of a new object", none.act(0, act, 5), 0);
         sentence("P31: ACT (0 .. 3), the first and the last BODY");

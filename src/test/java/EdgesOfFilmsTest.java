@@ -334,6 +334,17 @@ public final class EdgesOfFilmsTest {
         for (String text : new String[] {"0", "6", "4", "6"}) Check.floor(x, text);
         due("of like ones the first", x.which(0, 0), 1);
         due("its FRAMES are left", x.count(2), 2);
+        sentence("P26: of each STONE 0 .. 5 each FLOOR 0 .. 3");
+        for (int stone = 0; stone < 6; stone++) {
+            for (int best = 0; best < 4; best++) {
+                TurnsOneWay y = new TurnsOneWay();
+                for (int i = 0; i < 6; i++) Check.stone(y, "1+9+1;1-9-1/0,0," + (i == stone ? 100 : 0) + ",0");
+                // p pushes 10 in the first TICK, and what the FLOOR leaves of the others is too much
+                film(y, 0, 100, 1, 85);
+                for (int i = 0; i < 4; i++) Check.floor(y, i == best ? "w=0?5" : "w=0?" + (i < 2 ? 0 : 20));
+                due("floor " + best + " by " + stone, y.which(stone, 10000), best);
+            }
+        }
         sentence("T4: WHICH FLOOR: by the STONE's own KEEN");
         x = Check.ofThree("0,0,100,0");
         film(x, 0, 100, 1, 80);

@@ -36,6 +36,7 @@ public final class EdgesOfFloorsTest {
     public static void main(String[] args) {
         fourFloors();
         emptied();
+        noLeavings();
         everyByte();
         numbers();
         lines();
@@ -83,6 +84,20 @@ public final class EdgesOfFloorsTest {
         due("nor in the second", x.roll(1, 9, 0, 1), 7);
         due("nor of a stone's FAULT", Check.stone(x, "1+"), -102);
         due("a floor", Check.floor(x, "3"), 2);
+    }
+
+    private static void noLeavings() {
+        sentence("P7: a text that is none leaves nothing in the next FLOOR");
+        String[] faults = {"9;9;9;9;9;9x", "9?9;9?9;9?9;9x", "9+9*9-9;9&9;9|9x"};
+        for (String fault : faults) {
+            for (String text : new String[] {"0?5", "0?!5", "0?1+5", "0?!!5", "0?--5", "0?p*5", "0?1;0?2", "0?1;0?!2", "0?!1;0?!2"}) {
+                TurnsOneWay x = Check.ofThree("0,0,0,0");
+                due("fault of " + fault, Check.floor(x, fault), -100 - fault.length() + 1);
+                due("floor of " + text, Check.floor(x, text), 0);
+                due("it takes nothing", x.roll(0, 20, 500007, 3), 20);
+                for (int what = 2; what <= 4; what++) due("LOST " + what, x.told(what), 0);
+            }
+        }
     }
 
     /** Behind a beginning each byte: it goes on with these signs and no others. */

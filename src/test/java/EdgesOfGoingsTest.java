@@ -34,6 +34,7 @@ public final class EdgesOfGoingsTest {
 
     public static void main(String[] args) {
         growing();
+        smallest();
         lesser();
         beyondInts();
         zeroes();
@@ -72,6 +73,20 @@ public final class EdgesOfGoingsTest {
         tick(-2, "2,0,0,0", from(500, 500, 500), 500, 500, 500);
         tick(-2, "2,0,0,0", from(-500, 500, 500), -499, 501, 500);
         tick(-2, "0,2,0,0", from(-500, 500, 500), -500, 500, 500);
+    }
+
+    private static void smallest() {
+        sentence("T2: u 1 and -1, the next to 0");
+        // s 500 feeds 499 in the first TICK, and 1498 * 999 are more than 1000000 in the second
+        for (int k = -1; k <= 1; k += 2) {
+            for (int side = -1; side <= 1; side += 2) {
+                TurnsOneWay x = Check.ofKeen(k, "999,999,0,0");
+                boolean isP = k * side > 0;
+                due("s", x.roll(9, 500 * side, isP ? 999000 : 999, 2), 0);
+                at(x, 1, side, isP ? 1498 : 0, isP ? 0 : 1498);
+                at(x, 2, 0, isP ? 1499 : 0, isP ? 0 : 1499);
+            }
+        }
     }
 
     private static void lesser() {

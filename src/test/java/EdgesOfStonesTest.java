@@ -427,6 +427,23 @@ public final class EdgesOfStonesTest {
         due("none is left", x.undo(), -5);
         due("none is left, again", x.undo(), -5);
         due("all may be done again", x.redo(), 4);
+        sentence("T4: the first CHANGE is as good as another: of each STONE, of each number");
+        for (int stone = 0; stone < 6; stone++) {
+            for (int what = 6; what <= 12; what++) {
+                TurnsOneWay y = new TurnsOneWay();
+                for (int i = 0; i < 6; i++) Check.stone(y, "3+1+1;3+1+1;3+1+1/3,3,3,3");
+                due("was", y.set(stone, what, 7), 3);
+                due("undone", y.undo(), 0);
+                for (int i = 0; i < 6; i++) due("A to D, W of " + i, sumOf(y, i), 3 * 4 + 9);
+                due("done again", y.redo(), 0);
+                for (int i = 0; i < 6; i++) due("A to D, W of " + i, sumOf(y, i), 3 * 4 + 9 + (i == stone ? 4 : 0));
+                due("the number", what < 10 ? y.of(stone, what) : y.lump(stone, what - 10, 0), 7);
+            }
+        }
+    }
+
+    private static int sumOf(TurnsOneWay x, int stone) {
+        return x.of(stone, 1) + x.of(stone, 6) + x.of(stone, 7) + x.of(stone, 8) + x.of(stone, 9);
     }
 
     private static void doneAgain() {
@@ -474,10 +491,17 @@ public final class EdgesOfStonesTest {
             Check.stone(x, "1+0+0/500,0,0,0");
             for (int i = 1; i <= n; i++) x.set(0, 6, i);
             due("changes of " + n, x.count(4), Math.min(40, n));
-            for (int i = Math.min(40, n) - 1; i >= 0; i--) due("undo", x.undo(), i);
+            for (int i = Math.min(40, n) - 1; i >= 0; i--) {
+                due("undo", x.undo(), i);
+                int was = n == 41 ? i + 1 : i;
+                due("A as it was", x.of(0, 6), was == 0 ? 500 : was);
+            }
             due("no more of " + n, x.undo(), -5);
             due("A of " + n, x.of(0, 6), n == 41 ? 1 : 500);
-            for (int i = Math.min(40, n) - 1; i >= 0; i--) due("redo", x.redo(), i);
+            for (int i = Math.min(40, n) - 1; i >= 0; i--) {
+                due("redo", x.redo(), i);
+                due("A as it became", x.of(0, 6), n - i);
+            }
             due("no more again of " + n, x.redo(), -5);
             due("A at last", x.of(0, 6), n);
         }

@@ -21,10 +21,13 @@ public final class EdgesOfThoughtTest {
         goingStays();
         even();
         evenArguments();
+        evenAlone();
         soonest();
         soonestLate();
+        soonestGrounds();
         soonestArguments();
         screws();
+        screwsAsLumps();
         lightest();
         seen();
         seenLate();
@@ -111,6 +114,31 @@ public final class EdgesOfThoughtTest {
         due("s 999", x.even(0, 999, 999999, 0), 0);
     }
 
+    private static void evenAlone() {
+        sentence("T2: Without a FLOOR none, also behind an EVEN that took");
+        String[] stones = {"1+9+1;1-9-1/0,0,100,10", "1+0+0/0,0,0,0"};
+        TurnsOneWay fresh = of(stones), x = of(stones);
+        fresh.frame(0, 10);
+        fresh.frame(3, 78);
+        x.frame(0, 10);
+        x.frame(3, 78);
+        // s 10, p 200, q 990 is 78 in three TICKS
+        x.even(0, 10, 200990, 99);
+        due("roll", x.roll(9, 10, 200990, 3), 78);
+        x.even(0, 10, 200990, 99);
+        due("soonest", x.soonest(9, 10, 200990, 1), 1);
+        x.even(0, 10, 200990, 99);
+        due("seen", x.seen(9, 10, 200990), 1);
+        x.even(0, 10, 200990, 99);
+        due("pressed", x.pressed(9, 100), fresh.pressed(9, 100));
+        x.even(0, 10, 200990, 99);
+        due("hands", x.hands(9, 7, 20), fresh.hands(9, 7, 20));
+        x.even(0, 10, 200990, 99);
+        due("off", x.off(9, 200990, 2), 0);
+        x.even(0, 10, 200990, 99);
+        due("and EVEN by c 0", x.even(0, 10, 200990, 0), 2);
+    }
+
     private static void soonest() {
         String never = "1+0+0/0,0,100,0", second = "1+9+1;1-9-1/0,0,50,0", first = "1+9+1;1-9-1/0,0,100,0";
         sentence("T3: SOONEST: that which first TURNS BACK at the least TICK");
@@ -152,6 +180,22 @@ public final class EdgesOfThoughtTest {
         due("at 401: the TICK", x.soonest(9, AT_401[0], AT_401[1], 1), NOT);
     }
 
+    private static void soonestGrounds() {
+        String never = "1+0+0/0,0,100,0", first = "1+9+1;1-9-1/0,0,100,0";
+        sentence("P14: each STONE 0 .. 5 on each FLOOR 0 .. 3");
+        for (int stone = 0; stone < 6; stone++) {
+            for (int open = 0; open < 4; open++) {
+                TurnsOneWay x = new TurnsOneWay();
+                for (int i = 0; i < 6; i++) Check.stone(x, i == stone ? first : never);
+                for (int i = 0; i < 4; i++) Check.floor(x, i == open ? "0" : "w=0?v");
+                for (int floor = 0; floor < 4; floor++) {
+                    due("stone " + stone + " on " + floor, x.soonest(floor, 50, 100000, 0), floor == open ? stone : NOT);
+                }
+                due("stone " + stone + " on none", x.soonest(9, 50, 100000, 0), stone);
+            }
+        }
+    }
+
     private static void soonestArguments() {
         sentence("P14: floor 9: none");
         TurnsOneWay x = of("1+9+1;1-9-1/0,0,50,0");
@@ -168,6 +212,33 @@ public final class EdgesOfThoughtTest {
         due("without stones", of().soonest(9, 1000, 0, 0), -1);
         due("without stones or floors", of().soonest(0, 1, 0, 0), -1);
         due("what, without stones", of().soonest(9, 1, 0, 2), -1);
+    }
+
+    private static String signed(int v) { return v < 0 ? "" + v : "+" + v; }
+
+    /** The first place at which two LUMPS that are really there make KEEN v or more. */
+    private static int placeOfLumps(int[] keens, int v) {
+        for (int place = 0; place < 361; place++) {
+            if (keens[place] >= v) return 100 * (place / 19) + place % 19;
+        }
+        return NOT;
+    }
+
+    private static void screwsAsLumps() {
+        sentence("T3: SCREWS: two weights m (1 .. 9) at x, y and at -x, -y");
+        String[] stones = {"7-9+2;6+5-8", "9-7+5;3+2-8", "3-5+7;9+4-7", "8-6+8", "8+9-7", "9+0+9;9+0-9;9+1+9;2+0-9", "1+0+0"};
+        for (String lumps : stones) {
+            TurnsOneWay x = of(lumps + "/0,0,0,0");
+            for (int m : new int[] {1, 2, 3, 9}) {
+                int[] keens = new int[361];
+                for (int place = 0; place < 361; place++) {
+                    int a = place / 19 - 9, b = place % 19 - 9;
+                    String screws = ";" + m + signed(a) + signed(b) + ";" + m + signed(-a) + signed(-b);
+                    keens[place] = of(lumps + screws + "/0,0,0,0").of(0, 5);
+                }
+                for (int v = -9; v <= 9; v++) due(lumps + " by " + m + ", " + v, x.screws(0, m, v), placeOfLumps(keens, v));
+            }
+        }
     }
 
     private static void screws() {
